@@ -2,8 +2,7 @@ import java.util.function.Supplier;
 
 /** What the tests of the project share: counting answers that are not due, and calls that must be refused. */
 final class Check {
-    static final int DIVISIONS = 5;
-    static final int[] PISTONS = {16, 25};
+    private static final int[] PISTONS = {16, 25};
 
     private int asked = 0;
     private int wrong = 0;
@@ -50,7 +49,10 @@ final class Check {
         }
     }
 
-    /** All that calls which change nothing tell of a console. */
+    /**
+     * All that calls which change nothing tell of a console. These are more than the 512 calls that are promised;
+     * the program keeps no count of calls, so a test may ask them.
+     */
     static String looks(OrganConsole x) {
         StringBuilder all = new StringBuilder();
         for (int what = 0; what <= 10; what++) {
