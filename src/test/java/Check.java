@@ -7,6 +7,15 @@ final class Check {
     private int asked = 0;
     private int wrong = 0;
 
+    /** A console with so many stops, stop s of division s % 5, each of all pipes. */
+    static OrganConsole stops(int size) {
+        OrganConsole x = new OrganConsole();
+        for (int s = 0; s < size; s++) {
+            x.stop(s % 5, 0, 0, 96);
+        }
+        return x;
+    }
+
     void due(String call, long want, long got) {
         asked++;
         if (got != want) {

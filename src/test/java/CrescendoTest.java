@@ -14,16 +14,8 @@ public final class CrescendoTest {
         CHECK.end("CrescendoTest");
     }
 
-    private static OrganConsole stops(int size) {
-        OrganConsole x = new OrganConsole();
-        for (int s = 0; s < size; s++) {
-            x.stop(s % 5, 0, 0, 96);
-        }
-        return x;
-    }
-
     private static void fullOrganSpeaks() {
-        OrganConsole x = stops(48);
+        OrganConsole x = Check.stops(48);
         x.key(0, 0, true);
         CHECK.no("off at first", x.full(false));
         CHECK.yes("on", x.full(true));
@@ -54,7 +46,7 @@ public final class CrescendoTest {
     }
 
     private static void stepsAdd() {
-        OrganConsole x = stops(15);
+        OrganConsole x = Check.stops(15);
         for (int step = 1; step <= 15; step++) {
             CHECK.yes("assign", x.assign(step, step - 1, true));
         }
@@ -75,7 +67,7 @@ public final class CrescendoTest {
     }
 
     private static void stopsComeAndGo() {
-        OrganConsole x = stops(48);
+        OrganConsole x = Check.stops(48);
         CHECK.no("out of a set it is not in", x.assign(15, 47, false));
         CHECK.yes("in", x.assign(15, 47, true));
         CHECK.no("in again", x.assign(15, 47, true));
@@ -92,7 +84,7 @@ public final class CrescendoTest {
     }
 
     private static void wrongSteps() {
-        OrganConsole x = stops(2);
+        OrganConsole x = Check.stops(2);
         x.pedal(15);
         int[] bad = {-1, 0, 16, Integer.MIN_VALUE, Integer.MAX_VALUE};
         for (int step : bad) {
@@ -106,7 +98,7 @@ public final class CrescendoTest {
     }
 
     private static void theLockKeepsSteps() {
-        OrganConsole x = stops(2);
+        OrganConsole x = Check.stops(2);
         x.pedal(15);
         x.assign(4, 1, true);
         x.lock(true);

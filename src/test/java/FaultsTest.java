@@ -12,16 +12,8 @@ public final class FaultsTest {
         CHECK.end("FaultsTest");
     }
 
-    private static OrganConsole stops(int size) {
-        OrganConsole x = new OrganConsole();
-        for (int s = 0; s < size; s++) {
-            x.stop(s % 5, 0, 0, 96);
-        }
-        return x;
-    }
-
     private static void linesAndCoilsAreNamed() {
-        OrganConsole x = stops(48);
+        OrganConsole x = Check.stops(48);
         for (int how = 1; how <= 2; how++) {
             for (int line = 0; line < 40; line++) {
                 CHECK.due("was sound", 0, x.fault(0, line, how));
@@ -42,7 +34,7 @@ public final class FaultsTest {
     }
 
     private static void theFirstIsNamed() {
-        OrganConsole x = stops(3);
+        OrganConsole x = Check.stops(3);
         x.fault(1, 2, 1);
         CHECK.due("the last coil", 105, x.test());
         x.fault(1, 0, 2);
@@ -60,7 +52,7 @@ public final class FaultsTest {
     }
 
     private static void faultsTouchNothingElse() {
-        OrganConsole x = stops(2);
+        OrganConsole x = Check.stops(2);
         x.key(0, 7, true);
         x.knob(0, true);
         for (int line = 0; line < 40; line++) {
@@ -72,7 +64,7 @@ public final class FaultsTest {
     }
 
     private static void wrongFaults() {
-        OrganConsole x = stops(2);
+        OrganConsole x = Check.stops(2);
         int[][] missing = {{-1, 0}, {2, 0}, {Integer.MIN_VALUE, 0}, {Integer.MAX_VALUE, 0}, {0, -1}, {0, 40},
             {0, Integer.MAX_VALUE}, {1, -1}, {1, 2}, {1, 47}, {1, 48}, {1, Integer.MIN_VALUE}};
         for (int[] m : missing) {

@@ -18,14 +18,6 @@ public final class FramesTest {
         CHECK.end("FramesTest");
     }
 
-    private static OrganConsole stops(int size) {
-        OrganConsole x = new OrganConsole();
-        for (int s = 0; s < size; s++) {
-            x.stop(s % 5, 0, 0, 96);
-        }
-        return x;
-    }
-
     /** A frame with just one stop, behind the cursor. */
     private static int insertWith(OrganConsole x, int stop) {
         for (int s = 0; s < x.count(0); s++) {
@@ -46,7 +38,7 @@ public final class FramesTest {
     }
 
     private static void framesComeBehindTheCursor() {
-        OrganConsole x = stops(6);
+        OrganConsole x = Check.stops(6);
         CHECK.due("insert", 1, insertWith(x, 0));
         CHECK.due("cursor", 0, x.count(6));
         CHECK.due("insert", 2, insertWith(x, 1));
@@ -60,7 +52,7 @@ public final class FramesTest {
     }
 
     private static void moveRecalls() {
-        OrganConsole x = stops(4);
+        OrganConsole x = Check.stops(4);
         for (int s = 0; s < 4; s++) {
             insertWith(x, s);
         }
@@ -91,7 +83,7 @@ public final class FramesTest {
     }
 
     private static void deleteGoesBack() {
-        OrganConsole x = stops(5);
+        OrganConsole x = Check.stops(5);
         for (int s = 0; s < 5; s++) {
             insertWith(x, s);
         }
@@ -115,7 +107,7 @@ public final class FramesTest {
     }
 
     private static void pressBringsTheCursor() {
-        OrganConsole x = stops(3);
+        OrganConsole x = Check.stops(3);
         for (int s = 0; s < 3; s++) {
             insertWith(x, s);
         }
@@ -131,7 +123,7 @@ public final class FramesTest {
     }
 
     private static void setOfAFrame() {
-        OrganConsole x = stops(3);
+        OrganConsole x = Check.stops(3);
         insertWith(x, 0);
         insertWith(x, 1);
         insertWith(x, 2);
@@ -146,7 +138,7 @@ public final class FramesTest {
     }
 
     private static void theLockKeepsFrames() {
-        OrganConsole x = stops(2);
+        OrganConsole x = Check.stops(2);
         insertWith(x, 0);
         x.lock(true);
         CHECK.refused(x, "insert, locked", IllegalStateException.class, () -> x.insert());
@@ -156,7 +148,7 @@ public final class FramesTest {
     }
 
     private static void aHundredFrames() {
-        OrganConsole x = stops(48);
+        OrganConsole x = Check.stops(48);
         for (int f = 0; f < 100; f++) {
             x.knob(f % 48, f < 48);
             CHECK.due("insert", f + 1, x.insert());
@@ -177,7 +169,7 @@ public final class FramesTest {
     }
 
     private static void framesAndStepsHaveSetsOfTheirOwn() {
-        OrganConsole x = stops(1);
+        OrganConsole x = Check.stops(1);
         x.knob(0, true);
         for (int f = 0; f < 100; f++) {
             x.insert();
@@ -199,7 +191,7 @@ public final class FramesTest {
     }
 
     private static void noFrames() {
-        OrganConsole x = stops(1);
+        OrganConsole x = Check.stops(1);
         CHECK.refused(x, "press", NoSuchElementException.class, () -> x.press(2, 0));
         CHECK.refused(x, "press of -1", NoSuchElementException.class, () -> x.press(2, -1));
         CHECK.refused(x, "set", NoSuchElementException.class, () -> x.set(2, 0));
@@ -212,7 +204,7 @@ public final class FramesTest {
     }
 
     private static void framesHaveNoLevel() {
-        OrganConsole x = stops(2);
+        OrganConsole x = Check.stops(2);
         insertWith(x, 1);
         x.level(5);
         CHECK.yes("lamp at another level", x.lamp(2, 0));

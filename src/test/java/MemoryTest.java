@@ -21,20 +21,13 @@ public final class MemoryTest {
         CHECK.end("MemoryTest");
     }
 
-    private static OrganConsole two() {
-        OrganConsole x = new OrganConsole();
-        x.stop(0, 0, 0, 96);
-        x.stop(1, 0, 0, 96);
-        return x;
-    }
-
     private static void inForce(OrganConsole x, int version, int copy) {
         CHECK.due("version in force", version, x.count(7));
         CHECK.due("copy in force", copy, x.count(10));
     }
 
     private static void copiesTakeTurns() {
-        OrganConsole x = two();
+        OrganConsole x = Check.stops(2);
         inForce(x, 0, OrganConsole.NONE);
         CHECK.due("first commit", 1, x.commit(9));
         inForce(x, 1, 0);
@@ -48,7 +41,7 @@ public final class MemoryTest {
 
     private static void aCutAheadOfTheMark() {
         for (int writes = 0; writes < 9; writes++) {
-            OrganConsole x = two();
+            OrganConsole x = Check.stops(2);
             x.insert();
             CHECK.due("cut behind " + writes, 0, x.commit(writes));
             inForce(x, 0, OrganConsole.NONE);
@@ -67,7 +60,7 @@ public final class MemoryTest {
 
     private static void aCutSpoilsTheOtherCopy() {
         for (int writes = 1; writes < 9; writes++) {
-            OrganConsole x = two();
+            OrganConsole x = Check.stops(2);
             x.insert();
             x.commit(9);
             x.insert();
@@ -85,7 +78,7 @@ public final class MemoryTest {
     }
 
     private static void noWriteLeavesTheOtherCopyWhole() {
-        OrganConsole x = two();
+        OrganConsole x = Check.stops(2);
         x.insert();
         x.commit(9);
         x.insert();
@@ -102,7 +95,7 @@ public final class MemoryTest {
     }
 
     private static void theMemoryComesBack() {
-        OrganConsole x = two();
+        OrganConsole x = Check.stops(2);
         x.knob(0, true);
         x.set(0, 15);
         x.set(1, 0);
@@ -146,7 +139,7 @@ public final class MemoryTest {
     }
 
     private static void bootLeavesAndResets() {
-        OrganConsole x = two();
+        OrganConsole x = Check.stops(2);
         x.coupler(0, 1, 0);
         x.tab(0, true);
         x.key(0, 10, true);
@@ -182,7 +175,7 @@ public final class MemoryTest {
     }
 
     private static void bootWithoutACopy() {
-        OrganConsole x = two();
+        OrganConsole x = Check.stops(2);
         x.knob(0, true);
         for (int level = 0; level < 8; level++) {
             x.level(level);
@@ -206,7 +199,7 @@ public final class MemoryTest {
 
     private static void spoiltPages() {
         for (int page = 0; page < 9; page++) {
-            OrganConsole x = two();
+            OrganConsole x = Check.stops(2);
             x.insert();
             x.commit(9);
             x.insert();
@@ -228,7 +221,7 @@ public final class MemoryTest {
     }
 
     private static void aWrittenPageIsNotSpoilt() {
-        OrganConsole x = two();
+        OrganConsole x = Check.stops(2);
         x.commit(9);
         x.commit(9);
         x.spoil(0, 2);
@@ -237,7 +230,7 @@ public final class MemoryTest {
         CHECK.due("all are written", 4, x.commit(9));
         x.spoil(1, 0);
         CHECK.due("no page of copy 0 is spoilt", 4, x.boot());
-        OrganConsole y = two();
+        OrganConsole y = Check.stops(2);
         y.commit(9);
         y.spoil(0, 0);
         y.spoil(0, 8);
@@ -248,7 +241,7 @@ public final class MemoryTest {
     }
 
     private static void versionsCountSpoiltAndPartPages() {
-        OrganConsole x = two();
+        OrganConsole x = Check.stops(2);
         x.commit(1);
         x.commit(1);
         CHECK.due("page 0 bears 2", 2, x.spoil(0, 0));
@@ -262,7 +255,7 @@ public final class MemoryTest {
     }
 
     private static void aSpoiltCopyStaysInForce() {
-        OrganConsole x = two();
+        OrganConsole x = Check.stops(2);
         x.insert();
         x.commit(9);
         x.spoil(0, 8);
@@ -274,7 +267,7 @@ public final class MemoryTest {
     }
 
     private static void wrongCommits() {
-        OrganConsole x = two();
+        OrganConsole x = Check.stops(2);
         x.insert();
         x.commit(9);
         x.lock(true);
@@ -288,7 +281,7 @@ public final class MemoryTest {
     }
 
     private static void wrongPages() {
-        OrganConsole x = two();
+        OrganConsole x = Check.stops(2);
         x.insert();
         x.commit(9);
         x.commit(9);

@@ -24,15 +24,6 @@ public final class PistonsTest {
         CHECK.end("PistonsTest");
     }
 
-    /** Five stops, stop d of division d. */
-    private static OrganConsole five() {
-        OrganConsole x = new OrganConsole();
-        for (int d = 0; d < 5; d++) {
-            x.stop(d, 0, 0, 96);
-        }
-        return x;
-    }
-
     private static void knobs(OrganConsole x, boolean... out) {
         for (int s = 0; s < out.length; s++) {
             CHECK.due("knob of stop " + s, out[s] ? 1 : 0, x.about(s, 0));
@@ -40,7 +31,7 @@ public final class PistonsTest {
     }
 
     private static void handsMoveKnobs() {
-        OrganConsole x = five();
+        OrganConsole x = Check.stops(5);
         CHECK.no("in at first", x.knob(0, false));
         CHECK.yes("out", x.knob(0, true));
         CHECK.no("out again", x.knob(0, true));
@@ -55,7 +46,7 @@ public final class PistonsTest {
     }
 
     private static void pullsTakeThreeTicks() {
-        OrganConsole x = five();
+        OrganConsole x = Check.stops(5);
         x.knob(1, true);
         x.knob(2, true);
         CHECK.due("set", 2, x.set(0, 4));
@@ -86,7 +77,7 @@ public final class PistonsTest {
     }
 
     private static void pullsBeginAnewOrAreDropped() {
-        OrganConsole x = five();
+        OrganConsole x = Check.stops(5);
         x.knob(0, true);
         x.set(0, 0);
         x.knob(1, true);
@@ -104,7 +95,7 @@ public final class PistonsTest {
     }
 
     private static void handsDropPulls() {
-        OrganConsole x = five();
+        OrganConsole x = Check.stops(5);
         for (int s = 0; s < 3; s++) {
             x.knob(s, true);
         }
@@ -125,7 +116,7 @@ public final class PistonsTest {
     }
 
     private static void divisionalsActInTheirDivision() {
-        OrganConsole x = five();
+        OrganConsole x = Check.stops(5);
         for (int s = 0; s < 5; s++) {
             x.knob(s, true);
         }
@@ -152,7 +143,7 @@ public final class PistonsTest {
     }
 
     private static void aDivisionalLeavesOtherPulls() {
-        OrganConsole x = five();
+        OrganConsole x = Check.stops(5);
         x.knob(0, true);
         x.knob(1, true);
         x.set(0, 0);
@@ -168,14 +159,14 @@ public final class PistonsTest {
     }
 
     private static void levelsHoldSetsOfTheirOwn() {
-        OrganConsole x = five();
+        OrganConsole x = Check.stops(5);
         for (int level = 0; level < 8; level++) {
             CHECK.due("level was", Math.max(level - 1, 0), x.level(level));
             x.knob(level % 5, level % 2 == 0);
             x.set(0, 15);
             x.set(1, 24);
         }
-        OrganConsole y = five();
+        OrganConsole y = Check.stops(5);
         for (int level = 0; level < 8; level++) {
             y.knob(level % 5, level % 2 == 0);
             x.level(level);
@@ -203,7 +194,7 @@ public final class PistonsTest {
 
     /** With all knobs in, every lamp is lit but that of the one piston whose set is not empty. */
     private static void onlyOneIsSet(int kind, int level, int p) {
-        OrganConsole x = five();
+        OrganConsole x = Check.stops(5);
         int stop = kind == 1 ? p / 5 : p % 5;
         x.knob(stop, true);
         x.level(level);
@@ -222,7 +213,7 @@ public final class PistonsTest {
     }
 
     private static void theLockKeepsSets() {
-        OrganConsole x = five();
+        OrganConsole x = Check.stops(5);
         x.knob(0, true);
         x.insert();
         CHECK.yes("lock", x.lock(true));
@@ -242,7 +233,7 @@ public final class PistonsTest {
     }
 
     private static void setCountsWithinTheScope() {
-        OrganConsole x = five();
+        OrganConsole x = Check.stops(5);
         x.stop(2, 0, 0, 96);
         x.stop(2, 0, 0, 96);
         for (int s = 0; s < 7; s++) {
@@ -262,7 +253,7 @@ public final class PistonsTest {
     }
 
     private static void aStopAddedLaterIsInNoSet() {
-        OrganConsole x = five();
+        OrganConsole x = Check.stops(5);
         for (int s = 0; s < 5; s++) {
             x.knob(s, true);
         }
@@ -279,7 +270,7 @@ public final class PistonsTest {
     }
 
     private static void faultyCoilsDoNotMove() {
-        OrganConsole x = five();
+        OrganConsole x = Check.stops(5);
         for (int s = 0; s < 3; s++) {
             x.knob(s, true);
         }
@@ -304,7 +295,7 @@ public final class PistonsTest {
     }
 
     private static void wrongPistons() {
-        OrganConsole x = five();
+        OrganConsole x = Check.stops(5);
         x.knob(0, true);
         x.insert();
         int[][] bad = {{-1, 0}, {3, 0}, {Integer.MIN_VALUE, 0}, {Integer.MAX_VALUE, 0}, {0, -1}, {0, 16},
@@ -320,7 +311,7 @@ public final class PistonsTest {
     }
 
     private static void wrongTicksAndLevels() {
-        OrganConsole x = five();
+        OrganConsole x = Check.stops(5);
         x.knob(0, true);
         x.press(0, 0);
         int[] ticks = {-1, 101, Integer.MIN_VALUE, Integer.MAX_VALUE};
@@ -337,7 +328,7 @@ public final class PistonsTest {
     }
 
     private static void whatAboutTells() {
-        OrganConsole x = five();
+        OrganConsole x = Check.stops(5);
         x.knob(0, true);
         x.key(0, 5, true);
         x.press(0, 0);
