@@ -1,27 +1,19 @@
+import java.util.List;
+import java.util.function.Consumer;
 import java.util.function.Supplier;
 
 /** What the tests of the project share: counting answers that are not due, and calls that must be refused. */
 final class Check {
-    private static final int[] PISTONS = {16, 25};
-
     private int asked = 0;
     private int wrong = 0;
 
-    /** A console with so many stops, stop s of division s % 5, each of all pipes. */
-    static OrganConsole stops(int size) {
-        OrganConsole x = new OrganConsole();
-        for (int s = 0; s < size; s++) {
-            x.stop(s % 5, 0, 0, 96);
-        }
-        return x;
+    /** The first number below first .. last and the first above it, and the farthest on both sides. */
+    static int[] outside(int first, int last) {
+        return new int[] {Integer.MIN_VALUE, first - 1, last + 1, Integer.MAX_VALUE};
     }
 
     void due(String call, long want, long got) {
-        asked++;
-        if (got != want) {
-            wrong++;
-            System.out.println(call + " answered " + got + ", due is " + want);
-        }
+        same(call, String.valueOf(want), String.valueOf(got));
     }
 
     void yes(String call, boolean got) {
@@ -40,14 +32,39 @@ final class Check {
         }
     }
 
+    /** Both consoles must look alike; if not, the first thing that differs is told. */
+    void alike(String call, List<String> want, List<String> got) {
+        asked++;
+        if (want.equals(got)) {
+            return;
+        }
+        wrong++;
+        int at = 0;
+        while (at < want.size() && at < got.size() && want.get(at).equals(got.get(at))) {
+            at++;
+        }
+        System.out.println(call + ": then " + entry(got, at) + ", due is " + entry(want, at));
+    }
+
+    private static String entry(List<String> looks, int at) {
+        return at < looks.size() ? looks.get(at) : "nothing";
+    }
+
     /** The call must throw just this exception, and leave all that can be asked as it was. */
-    void refused(OrganConsole x, String call, Class<? extends RuntimeException> kind, Runnable action) {
-        String before = looks(x);
-        same(call, kind.getSimpleName(), outcome(() -> {
-            action.run();
-            return "an answer";
+    void refused(Console x, String call, Class<? extends RuntimeException> kind, Consumer<Face> action) {
+        same(call, kind.getSimpleName(), outcome(x.twin(), action));
+        alike(call + " must change nothing", Looks.of(x::twin), Looks.of(() -> {
+            Console touched = x.twin();
+            outcome(touched, action);
+            return touched;
         }));
-        same(call + " must change nothing", before, looks(x));
+    }
+
+    private static String outcome(Face x, Consumer<Face> action) {
+        return outcome(() -> {
+            action.accept(x);
+            return "an answer";
+        });
     }
 
     static String outcome(Supplier<Object> call) {
@@ -56,32 +73,6 @@ final class Check {
         } catch (RuntimeException e) {
             return e.getClass().getSimpleName();
         }
-    }
-
-    /**
-     * All that calls which change nothing tell of a console. These are more than the 512 calls that are promised;
-     * the program keeps no count of calls, so a test may ask them.
-     */
-    static String looks(OrganConsole x) {
-        StringBuilder all = new StringBuilder();
-        for (int what = 0; what <= 10; what++) {
-            all.append(x.count(what)).append(' ');
-        }
-        for (int stop = 0; stop < x.count(0); stop++) {
-            for (int what = 0; what <= 3; what++) {
-                all.append(x.about(stop, what)).append(' ');
-            }
-            for (int n = 0; n <= 96; n++) {
-                all.append(x.pipe(stop, n) ? 'o' : '.');
-            }
-        }
-        for (int kind = 0; kind <= 2; kind++) {
-            int size = kind == 2 ? x.count(5) : PISTONS[kind];
-            for (int p = 0; p < size; p++) {
-                all.append(x.lamp(kind, p) ? '*' : '-');
-            }
-        }
-        return all.append(' ').append(x.test()).toString();
     }
 
     /** Ends the run: exit code 1 if an answer was not due. */

@@ -25,6 +25,9 @@ public final class FaceTest {
         theMethods();
         theFields();
         aNewObject();
+        nothingIsThereYet();
+        eachObjectIsItsOwn();
+        theLastCallIsAnsweredToo();
         CHECK.end("FaceTest");
     }
 
@@ -85,29 +88,67 @@ public final class FaceTest {
         CHECK.due("NONE", -1, OrganConsole.NONE);
     }
 
+    // "No stops, no couplers, all keys up, no frames, everything sound."
     private static void aNewObject() {
-        OrganConsole x = new OrganConsole();
-        int[] counts = {0, 0, 0, 0, 0, 0, -1, 0, 0, 0, -1};
-        for (int what = 0; what < counts.length; what++) {
-            CHECK.due("count " + what + " of a new object", counts[what], x.count(what));
+        for (int what = 0; what <= 10; what++) {
+            CHECK.due("count " + what, what == 6 || what == 10 ? -1 : 0, new Console().count(what));
         }
-        CHECK.due("test of a new object", 0, x.test());
-        for (int p = 0; p < 25; p++) {
-            CHECK.yes("divisional lamp with no stops", x.lamp(1, p));
-            CHECK.yes("general lamp with no stops", x.lamp(0, p % 16));
-        }
-        CHECK.due("level of a new object", 0, x.level(0));
-        CHECK.due("pedal of a new object", 0, x.pedal(0));
-        CHECK.no("lock of a new object", x.lock(false));
-        CHECK.no("full organ of a new object", x.full(false));
+        Console x = new Console();
         for (int keyboard = 0; keyboard < 5; keyboard++) {
-            CHECK.no("key of a new object", x.key(keyboard, 31, false));
+            for (int k = 0; k < (keyboard == 4 ? 32 : 61); k++) {
+                CHECK.no("key " + k + " of keyboard " + keyboard, x.key(keyboard, k, false));
+            }
         }
-        x.stop(0, 0, 0, 96);
-        CHECK.yes("general without a stop in its set", x.lamp(0, 15));
-        x.knob(0, true);
-        CHECK.no("general without a stop in its set", x.lamp(0, 15));
-        OrganConsole y = new OrganConsole();
+        for (int line = 0; line < 40; line++) {
+            CHECK.due("line " + line, 0, x.fault(0, line, 0));
+        }
+        CHECK.due("test", 0, x.test());
+        CHECK.due("level", 0, x.level(0));
+        CHECK.due("pedal", 0, x.pedal(0));
+        CHECK.no("lock", x.lock(false));
+        CHECK.no("full organ", x.full(false));
+        CHECK.due("boot", 0, x.boot());
+    }
+
+    private static void nothingIsThereYet() {
+        Console x = new Console();
+        CHECK.refused(x, "knob", NoSuchElementException.class, c -> c.knob(0, true));
+        CHECK.refused(x, "about", NoSuchElementException.class, c -> c.about(0, 0));
+        CHECK.refused(x, "pipe", NoSuchElementException.class, c -> c.pipe(0, 0));
+        CHECK.refused(x, "coil", NoSuchElementException.class, c -> c.fault(1, 0, 0));
+        CHECK.refused(x, "assign", NoSuchElementException.class, c -> c.assign(1, 0, true));
+        CHECK.refused(x, "tab", NoSuchElementException.class, c -> c.tab(0, true));
+        CHECK.refused(x, "press of a frame", NoSuchElementException.class, c -> c.press(2, 0));
+        CHECK.refused(x, "move", IllegalArgumentException.class, c -> c.move(1));
+        CHECK.refused(x, "delete", IllegalStateException.class, c -> c.delete());
+        CHECK.refused(x, "spoil", IllegalStateException.class, c -> c.spoil(0, 0));
+    }
+
+    private static void eachObjectIsItsOwn() {
+        Console x = Scenes.busy();
+        CHECK.alike("a busy object beside it", Looks.of(Scenes::busy), Looks.of(x::twin));
+        Console y = new Console();
         CHECK.due("another object has stops of its own", 0, y.count(0));
+        y.stop(0, 0, 0, 96);
+        y.knob(0, true);
+        CHECK.due("the busy object's knob", 0, x.about(0, 0));
+    }
+
+    // "An object is used for at most 512 calls after it has been made"
+    private static void theLastCallIsAnsweredToo() {
+        Console x = Scenes.full();
+        int calls = x.callsLeft();
+        for (int i = 0; i < calls - 1; i++) {
+            CHECK.yes("key", x.key(1, 5, i % 2 == 0));
+        }
+        CHECK.due("one call is left", 1, x.callsLeft());
+        CHECK.due("the last call", 100, x.count(5));
+        String more = "a 513th call";
+        try {
+            x.count(5);
+        } catch (AssertionError stopped) {
+            more = "none";
+        }
+        CHECK.same("what tests ask behind it", "none", more);
     }
 }

@@ -1,8 +1,8 @@
 import java.util.Random;
+import java.util.function.Function;
 
 /** Promises 1 to 26: long mixed runs of calls, right ones and wrong ones, against the plain console. */
 public final class ModelTest {
-    private static final int CALLS = 512;
     private static final int[] EDGES = {Integer.MIN_VALUE, Integer.MAX_VALUE, -1, 96, 97, 100, 101};
     // how often each of the 25 calls comes in a run, by the run's kind
     private static final int[][] MIXES = {
@@ -15,7 +15,7 @@ public final class ModelTest {
 
     private final Check check;
     private final Random random;
-    private final OrganConsole real = new OrganConsole();
+    private final Console real = new Console();
     private final PlainConsole plain = new PlainConsole();
     private String call = "";
 
@@ -37,7 +37,7 @@ public final class ModelTest {
         for (int weight : mix) {
             all += weight;
         }
-        for (int i = 0; i < CALLS; i++) {
+        for (int i = 0; i < Console.MOST_CALLS; i++) {
             int drawn = random.nextInt(all);
             int which = 0;
             while (drawn >= mix[which]) {
@@ -72,12 +72,12 @@ public final class ModelTest {
         return near(0, kind == 0 ? random.nextInt(16) : kind == 1 ? random.nextInt(25) : plain.count(5) - 1);
     }
 
-    private void same(String name, String got, String want, int... arguments) {
+    private void same(String name, Function<Face, Object> asked, int... arguments) {
         StringBuilder told = new StringBuilder(name);
         for (int argument : arguments) {
             told.append(' ').append(argument);
         }
-        check.same(call + told, want, got);
+        check.same(call + told, Check.outcome(() -> asked.apply(plain)), Check.outcome(() -> asked.apply(real)));
     }
 
     private void step(int which, String where) {
@@ -105,15 +105,15 @@ public final class ModelTest {
         int p = somePiston(kind);
         int level = near(0, random.nextBoolean() ? 7 : 1);
         switch (which) {
-            case 0: same("stop", Check.outcome(() -> real.stop(a, b, low, high)), Check.outcome(() -> plain.stop(a, b, low, high)), a, b, low, high); break;
-            case 1: same("coupler", Check.outcome(() -> real.coupler(from, a, b)), Check.outcome(() -> plain.coupler(from, a, b)), from, a, b); break;
-            case 2: same("key", Check.outcome(() -> real.key(a, k, on)), Check.outcome(() -> plain.key(a, k, on)), a, k); break;
-            case 3: same("knob", Check.outcome(() -> real.knob(stop, on)), Check.outcome(() -> plain.knob(stop, on)), stop); break;
-            case 4: same("tab", Check.outcome(() -> real.tab(tab, on)), Check.outcome(() -> plain.tab(tab, on)), tab); break;
-            case 5: same("full", Check.outcome(() -> real.full(!on)), Check.outcome(() -> plain.full(!on))); break;
-            case 6: same("press", Check.outcome(() -> real.press(kind, p)), Check.outcome(() -> plain.press(kind, p)), kind, p); break;
-            case 7: same("set", Check.outcome(() -> real.set(kind, p)), Check.outcome(() -> plain.set(kind, p)), kind, p); break;
-            default: same("level", Check.outcome(() -> real.level(level)), Check.outcome(() -> plain.level(level)), level); break;
+            case 0: same("stop", x -> x.stop(a, b, low, high), a, b, low, high); break;
+            case 1: same("coupler", x -> x.coupler(from, a, b), from, a, b); break;
+            case 2: same("key", x -> x.key(a, k, on), a, k); break;
+            case 3: same("knob", x -> x.knob(stop, on), stop); break;
+            case 4: same("tab", x -> x.tab(tab, on), tab); break;
+            case 5: same("full", x -> x.full(!on)); break;
+            case 6: same("press", x -> x.press(kind, p), kind, p); break;
+            case 7: same("set", x -> x.set(kind, p), kind, p); break;
+            default: same("level", x -> x.level(level), level); break;
         }
     }
 
@@ -128,15 +128,15 @@ public final class ModelTest {
         int what = near(0, 3);
         int n = near(0, 96);
         switch (which) {
-            case 9: same("lock", Check.outcome(() -> real.lock(locked)), Check.outcome(() -> plain.lock(locked))); break;
-            case 10: same("move", Check.outcome(() -> real.move(by)), Check.outcome(() -> plain.move(by)), by); break;
-            case 11: same("insert", Check.outcome(() -> real.insert()), Check.outcome(() -> plain.insert())); break;
-            case 12: same("delete", Check.outcome(() -> real.delete()), Check.outcome(() -> plain.delete())); break;
-            case 13: same("pedal", Check.outcome(() -> real.pedal(position)), Check.outcome(() -> plain.pedal(position)), position); break;
-            case 14: same("assign", Check.outcome(() -> real.assign(stepNumber, stop, on)), Check.outcome(() -> plain.assign(stepNumber, stop, on)), stepNumber, stop); break;
-            case 15: same("tick", Check.outcome(() -> real.tick(ticks)), Check.outcome(() -> plain.tick(ticks)), ticks); break;
-            case 16: same("about", Check.outcome(() -> real.about(stop, what)), Check.outcome(() -> plain.about(stop, what)), stop, what); break;
-            default: same("pipe", Check.outcome(() -> real.pipe(stop, n)), Check.outcome(() -> plain.pipe(stop, n)), stop, n); break;
+            case 9: same("lock", x -> x.lock(locked)); break;
+            case 10: same("move", x -> x.move(by), by); break;
+            case 11: same("insert", x -> x.insert()); break;
+            case 12: same("delete", x -> x.delete()); break;
+            case 13: same("pedal", x -> x.pedal(position), position); break;
+            case 14: same("assign", x -> x.assign(stepNumber, stop, on), stepNumber, stop); break;
+            case 15: same("tick", x -> x.tick(ticks), ticks); break;
+            case 16: same("about", x -> x.about(stop, what), stop, what); break;
+            default: same("pipe", x -> x.pipe(stop, n), stop, n); break;
         }
     }
 
@@ -151,13 +151,13 @@ public final class ModelTest {
         int how = random.nextInt(3) == 0 ? near(0, 2) : 0;
         int what = near(0, 10);
         switch (which) {
-            case 18: same("lamp", Check.outcome(() -> real.lamp(kind, p)), Check.outcome(() -> plain.lamp(kind, p)), kind, p); break;
-            case 19: same("commit", Check.outcome(() -> real.commit(writes)), Check.outcome(() -> plain.commit(writes)), writes); break;
-            case 20: same("boot", Check.outcome(() -> real.boot()), Check.outcome(() -> plain.boot())); break;
-            case 21: same("spoil", Check.outcome(() -> real.spoil(copy, page)), Check.outcome(() -> plain.spoil(copy, page)), copy, page); break;
-            case 22: same("fault", Check.outcome(() -> real.fault(wireKind, k, how)), Check.outcome(() -> plain.fault(wireKind, k, how)), wireKind, k, how); break;
-            case 23: same("test", Check.outcome(() -> real.test()), Check.outcome(() -> plain.test())); break;
-            default: same("count", Check.outcome(() -> real.count(what)), Check.outcome(() -> plain.count(what)), what); break;
+            case 18: same("lamp", x -> x.lamp(kind, p), kind, p); break;
+            case 19: same("commit", x -> x.commit(writes), writes); break;
+            case 20: same("boot", x -> x.boot()); break;
+            case 21: same("spoil", x -> x.spoil(copy, page), copy, page); break;
+            case 22: same("fault", x -> x.fault(wireKind, k, how), wireKind, k, how); break;
+            case 23: same("test", x -> x.test()); break;
+            default: same("count", x -> x.count(what), what); break;
         }
     }
 }

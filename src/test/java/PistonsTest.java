@@ -1,186 +1,273 @@
 import java.util.NoSuchElementException;
 
-/** Promises 5 knob, 8 press, 9 set, 10 level, 11 lock, 17 tick, 18 about, 20 lamp. */
+/** Promises 5 knob, 8 press, 9 set, 10 level, 11 lock, 17 tick, 18 about, 20 lamp: pistons and magnets. */
 public final class PistonsTest {
     private static final Check CHECK = new Check();
-    private static final int[] FAR = {Integer.MIN_VALUE, -1, 48, Integer.MAX_VALUE};
 
     public static void main(String[] args) {
-        handsMoveKnobs();
+        knobsTellWhetherTheyWereNotSo();
+        knobsThatAreNot();
         pullsTakeThreeTicks();
-        pullsBeginAnewOrAreDropped();
-        handsDropPulls();
-        divisionalsActInTheirDivision();
-        aDivisionalLeavesOtherPulls();
-        levelsHoldSetsOfTheirOwn();
+        ticksInEveryPortion();
+        aPullBeginsAnew();
+        aPullIsDroppedWhereTheKnobStandsRight();
+        aPullOutsideTheScopeGoesOn();
+        aHandThatMovesAKnobDropsItsPull();
+        aHandThatLeavesAKnobDropsItsPull();
+        aFaultyCoilEndsThePullWithoutAMove();
+        theFaultAtTheThirdTickMatters();
+        generalsActOnAllStops();
+        divisionalsActOnTheirDivision();
         eachPistonHasASetOfItsOwn();
-        theLockKeepsSets();
-        setCountsWithinTheScope();
+        setsAreEmptyAtFirst();
+        pistonsWithoutStops();
+        pistonsOfAllStops();
+        aDivisionWithoutStops();
+        pressTellsHowManyPullsBegin();
+        setTakesKnobsAsTheyStand();
+        setTellsHowManyStopsAreInIt();
+        setTakesThePlaceOfTheOldSet();
         aStopAddedLaterIsInNoSet();
-        faultyCoilsDoNotMove();
-        wrongPistons();
-        wrongTicksAndLevels();
+        lampsAreLitByKnobsWithinTheScope();
+        pistonsThatAreNot();
+        theLockKeepsSets();
+        theLockTellsWhetherItWasNotSo();
+        levelsTellWhatTheyWere();
+        levelsThatAreNot();
+        ticksTellHowOftenAKnobMoved();
+        ticksThatAreNot();
         whatAboutTells();
+        whatAboutDoesNotTell();
         CHECK.end("PistonsTest");
     }
 
-    private static void knobs(OrganConsole x, boolean... out) {
+    private static void knobs(Console x, boolean... out) {
         for (int s = 0; s < out.length; s++) {
             CHECK.due("knob of stop " + s, out[s] ? 1 : 0, x.about(s, 0));
         }
     }
 
-    private static void handsMoveKnobs() {
-        OrganConsole x = Check.stops(5);
+    /** So many stops of all divisions, of which general 0 has all in its set; the knobs are in. */
+    private static Console generalOfAll(int size) {
+        Console x = Scenes.stops(size);
+        for (int s = 0; s < size; s++) {
+            x.knob(s, true);
+        }
+        x.set(0, 0);
+        for (int s = 0; s < size; s++) {
+            x.knob(s, false);
+        }
+        return x;
+    }
+
+    // "A hand brings a knob out, or in: whether it was not so."
+    private static void knobsTellWhetherTheyWereNotSo() {
+        Console x = Scenes.stops(5);
         CHECK.no("in at first", x.knob(0, false));
         CHECK.yes("out", x.knob(0, true));
         CHECK.no("out again", x.knob(0, true));
-        CHECK.due("count 3", 1, x.count(3));
+        CHECK.due("knobs out", 1, x.count(3));
         knobs(x, true, false, false, false, false);
         CHECK.yes("in", x.knob(0, false));
-        CHECK.due("count 3", 0, x.count(3));
-        int[] bad = {-1, 5, 48, 64, Integer.MIN_VALUE, Integer.MAX_VALUE};
-        for (int stop : bad) {
-            CHECK.refused(x, "knob " + stop, NoSuchElementException.class, () -> x.knob(stop, true));
-        }
+        CHECK.no("in again", x.knob(0, false));
+        CHECK.due("knobs out", 0, x.count(3));
     }
 
-    private static void pullsTakeThreeTicks() {
-        OrganConsole x = Check.stops(5);
-        x.knob(1, true);
-        x.knob(2, true);
-        CHECK.due("set", 2, x.set(0, 4));
-        x.knob(1, false);
-        x.knob(3, true);
-        CHECK.no("lamp", x.lamp(0, 4));
-        CHECK.due("press", 2, x.press(0, 4));
-        CHECK.due("count 4", 2, x.count(4));
-        CHECK.due("ticks left", 3, x.about(1, 2));
-        CHECK.due("ticks left of one that stands right", 0, x.about(2, 2));
-        CHECK.due("no ticks", 0, x.tick(0));
-        CHECK.due("ticks left", 3, x.about(3, 2));
-        CHECK.due("tick", 0, x.tick(1));
-        CHECK.due("tick", 0, x.tick(1));
-        CHECK.due("ticks left", 1, x.about(3, 2));
-        CHECK.due("count 4", 2, x.count(4));
-        knobs(x, false, false, true, true, false);
-        CHECK.due("third tick", 2, x.tick(1));
-        knobs(x, false, true, true, false, false);
-        CHECK.due("ticks left", 0, x.about(3, 2));
-        CHECK.due("count 4", 0, x.count(4));
-        CHECK.yes("lamp", x.lamp(0, 4));
-        CHECK.due("nothing to pull", 0, x.press(0, 4));
-        CHECK.due("nothing pulled", 0, x.tick(100));
-        x.press(0, 5);
-        CHECK.due("many ticks at once move a knob once", 2, x.tick(100));
-        CHECK.due("all in", 0, x.count(3));
-    }
-
-    private static void pullsBeginAnewOrAreDropped() {
-        OrganConsole x = Check.stops(5);
-        x.knob(0, true);
-        x.set(0, 0);
-        x.knob(1, true);
-        x.set(0, 1);
-        x.knob(0, false);
-        x.knob(1, false);
-        CHECK.due("press", 2, x.press(0, 1));
-        x.tick(2);
-        CHECK.due("the pull of stop 0 begins anew", 1, x.press(0, 0));
-        CHECK.due("anew", 3, x.about(0, 2));
-        CHECK.due("dropped", 0, x.about(1, 2));
-        CHECK.due("tick", 0, x.tick(2));
-        CHECK.due("tick", 1, x.tick(1));
-        knobs(x, true, false);
-    }
-
-    private static void handsDropPulls() {
-        OrganConsole x = Check.stops(5);
-        for (int s = 0; s < 3; s++) {
-            x.knob(s, true);
-        }
-        x.set(0, 0);
-        for (int s = 0; s < 3; s++) {
-            x.knob(s, false);
-        }
-        x.press(0, 0);
-        x.tick(1);
-        CHECK.no("a hand leaves a knob where it is", x.knob(0, false));
-        CHECK.yes("a hand moves a knob", x.knob(1, true));
-        CHECK.due("dropped", 0, x.about(0, 2));
-        CHECK.due("dropped", 0, x.about(1, 2));
-        CHECK.due("not dropped", 2, x.about(2, 2));
-        CHECK.due("count 4", 1, x.count(4));
-        CHECK.due("tick", 1, x.tick(3));
-        knobs(x, false, true, true);
-    }
-
-    private static void divisionalsActInTheirDivision() {
-        OrganConsole x = Check.stops(5);
-        for (int s = 0; s < 5; s++) {
-            x.knob(s, true);
-        }
-        for (int p = 0; p < 25; p += 3) {
-            CHECK.due("set of divisional " + p, 1, x.set(1, p));
-        }
-        for (int s = 0; s < 5; s++) {
-            x.knob(s, false);
-        }
-        for (int p = 0; p < 25; p += 3) {
-            CHECK.no("lamp", x.lamp(1, p));
-            CHECK.due("press of divisional " + p, 1, x.press(1, p));
-            CHECK.due("tick", 1, x.tick(3));
-            CHECK.due("the stop of division p / 5 is out", 1, x.about(p / 5, 0));
-            CHECK.due("it alone", 1, x.count(3));
-            CHECK.yes("lamp", x.lamp(1, p));
-            x.knob(p / 5, false);
-        }
-        CHECK.yes("lamp of an empty set", x.lamp(1, 1));
-        x.knob(1, true);
-        CHECK.yes("a stop outside the scope does not matter", x.lamp(1, 1));
-        CHECK.no("a stop in the scope does", x.lamp(1, 5));
-        CHECK.no("a general's scope is all", x.lamp(0, 0));
-    }
-
-    private static void aDivisionalLeavesOtherPulls() {
-        OrganConsole x = Check.stops(5);
-        x.knob(0, true);
-        x.knob(1, true);
-        x.set(0, 0);
-        x.knob(0, false);
-        x.knob(1, false);
-        x.press(0, 0);
-        x.tick(1);
-        CHECK.due("an empty divisional", 0, x.press(1, 0));
-        CHECK.due("dropped in its scope", 0, x.about(0, 2));
-        CHECK.due("left outside its scope", 2, x.about(1, 2));
-        CHECK.due("tick", 1, x.tick(2));
-        knobs(x, false, true);
-    }
-
-    private static void levelsHoldSetsOfTheirOwn() {
-        OrganConsole x = Check.stops(5);
-        for (int level = 0; level < 8; level++) {
-            CHECK.due("level was", Math.max(level - 1, 0), x.level(level));
-            x.knob(level % 5, level % 2 == 0);
-            x.set(0, 15);
-            x.set(1, 24);
-        }
-        OrganConsole y = Check.stops(5);
-        for (int level = 0; level < 8; level++) {
-            y.knob(level % 5, level % 2 == 0);
-            x.level(level);
-            x.press(0, 15);
-            x.tick(3);
-            for (int s = 0; s < 5; s++) {
-                CHECK.due("level " + level + " stop " + s, y.about(s, 0), x.about(s, 0));
+    private static void knobsThatAreNot() {
+        for (Console x : Scenes.all()) {
+            for (int stop : Check.outside(0, x.twin().count(0) - 1)) {
+                CHECK.refused(x, "knob " + stop + " out", NoSuchElementException.class, c -> c.knob(stop, true));
+                CHECK.refused(x, "knob " + stop + " in", NoSuchElementException.class, c -> c.knob(stop, false));
             }
-            CHECK.yes("general lamp at level " + level, x.lamp(0, 15));
-            CHECK.yes("divisional lamp at level " + level, x.lamp(1, 24));
         }
-        CHECK.due("level was", 7, x.level(7));
     }
 
+    // "a PULL begins .., which takes three ticks"; "At the third tick the knob comes to be so"
+    private static void pullsTakeThreeTicks() {
+        Console x = generalOfAll(2);
+        x.knob(1, true);
+        CHECK.due("press", 1, x.press(0, 0));
+        CHECK.due("three ticks till the end", 3, x.about(0, 2));
+        CHECK.due("none of the one that stands right", 0, x.about(1, 2));
+        CHECK.due("pulls", 1, x.count(4));
+        CHECK.due("first tick", 0, x.tick(1));
+        CHECK.due("two ticks till the end", 2, x.about(0, 2));
+        CHECK.due("second tick", 0, x.tick(1));
+        CHECK.due("one tick till the end", 1, x.about(0, 2));
+        CHECK.due("pulls", 1, x.count(4));
+        knobs(x, false, true);
+        CHECK.due("third tick", 1, x.tick(1));
+        knobs(x, true, true);
+        CHECK.due("the pull has ended", 0, x.about(0, 2));
+        CHECK.due("pulls", 0, x.count(4));
+        CHECK.due("fourth tick", 0, x.tick(1));
+        knobs(x, true, true);
+    }
+
+    private static void ticksInEveryPortion() {
+        for (int first = 0; first <= 4; first++) {
+            for (int second = 0; second <= 4; second++) {
+                Console x = generalOfAll(1);
+                x.press(0, 0);
+                CHECK.due("first " + first, first >= 3 ? 1 : 0, x.tick(first));
+                CHECK.due("left", Math.max(0, 3 - first), x.about(0, 2));
+                CHECK.due("then " + second, first < 3 && first + second >= 3 ? 1 : 0, x.tick(second));
+                CHECK.due("left", Math.max(0, 3 - first - second), x.about(0, 2));
+                knobs(x, first + second >= 3);
+            }
+        }
+    }
+
+    // "a PULL begins (anew, if there was one)"
+    private static void aPullBeginsAnew() {
+        for (int ticks = 0; ticks < 3; ticks++) {
+            Console x = generalOfAll(3);
+            x.press(0, 0);
+            x.tick(ticks);
+            CHECK.due("left", 3 - ticks, x.about(2, 2));
+            CHECK.due("press", 3, x.press(0, 0));
+            CHECK.due("anew", 3, x.about(2, 2));
+            CHECK.due("pulls", 3, x.count(4));
+            CHECK.due("two ticks", 0, x.tick(2));
+            CHECK.due("the third tick", 3, x.tick(1));
+            CHECK.due("each knob moves once", 0, x.tick(100));
+            knobs(x, true, true, true);
+        }
+    }
+
+    // "of each other one in the scope a pull that was begun is dropped"
+    private static void aPullIsDroppedWhereTheKnobStandsRight() {
+        for (int ticks = 0; ticks < 3; ticks++) {
+            Console x = generalOfAll(2);
+            x.knob(0, true);
+            x.set(0, 1);
+            x.knob(0, false);
+            CHECK.due("press", 2, x.press(0, 0));
+            x.tick(ticks);
+            CHECK.due("the pull of stop 0 begins anew", 1, x.press(0, 1));
+            CHECK.due("anew", 3, x.about(0, 2));
+            CHECK.due("dropped", 0, x.about(1, 2));
+            CHECK.due("pulls", 1, x.count(4));
+            CHECK.due("ticks", 1, x.tick(100));
+            knobs(x, true, false);
+        }
+    }
+
+    private static void aPullOutsideTheScopeGoesOn() {
+        Console x = generalOfAll(5);
+        x.press(0, 0);
+        x.tick(2);
+        CHECK.due("divisional of division 3, an empty set", 0, x.press(1, 15));
+        CHECK.due("dropped within the scope", 0, x.about(3, 2));
+        for (int s = 0; s < 5; s++) {
+            CHECK.due("left of stop " + s, s == 3 ? 0 : 1, x.about(s, 2));
+        }
+        CHECK.due("tick", 4, x.tick(1));
+        knobs(x, true, true, true, false, true);
+    }
+
+    // "When a hand moves a knob, or leaves it where it is, its pull is dropped."
+    private static void aHandThatMovesAKnobDropsItsPull() {
+        for (int ticks = 0; ticks < 3; ticks++) {
+            Console x = generalOfAll(2);
+            x.press(0, 0);
+            x.tick(ticks);
+            CHECK.yes("a hand moves it", x.knob(0, true));
+            CHECK.due("dropped", 0, x.about(0, 2));
+            CHECK.due("the other's is not", 3 - ticks, x.about(1, 2));
+            CHECK.due("ticks", 1, x.tick(3));
+            knobs(x, true, true);
+        }
+    }
+
+    private static void aHandThatLeavesAKnobDropsItsPull() {
+        for (int ticks = 0; ticks < 3; ticks++) {
+            Console x = generalOfAll(2);
+            x.press(0, 0);
+            x.tick(ticks);
+            CHECK.no("a hand leaves it", x.knob(0, false));
+            CHECK.due("dropped", 0, x.about(0, 2));
+            CHECK.due("the other's is not", 3 - ticks, x.about(1, 2));
+            CHECK.due("pulls", 1, x.count(4));
+            CHECK.due("ticks", 1, x.tick(3));
+            knobs(x, false, true);
+        }
+    }
+
+    // "(if its coil has a fault, it stays as it is, and the pull has ended)"
+    private static void aFaultyCoilEndsThePullWithoutAMove() {
+        for (int how = 1; how <= 2; how++) {
+            Console x = generalOfAll(2);
+            x.fault(1, 0, how);
+            CHECK.due("pulls begin all the same", 2, x.press(0, 0));
+            CHECK.due("left", 3, x.about(0, 2));
+            CHECK.due("two ticks", 0, x.tick(2));
+            CHECK.due("left", 1, x.about(0, 2));
+            CHECK.due("one knob moves", 1, x.tick(1));
+            knobs(x, false, true);
+            CHECK.due("the pull has ended", 0, x.about(0, 2));
+            CHECK.due("pulls", 0, x.count(4));
+            x.fault(1, 0, 0);
+            CHECK.due("an ended pull does not go on", 0, x.tick(100));
+            knobs(x, false, true);
+            CHECK.due("press again", 1, x.press(0, 0));
+            CHECK.due("tick", 1, x.tick(3));
+            x.fault(1, 0, how);
+            CHECK.yes("a hand moves a knob with a faulty coil", x.knob(0, false));
+        }
+    }
+
+    private static void theFaultAtTheThirdTickMatters() {
+        Console x = generalOfAll(3);
+        x.fault(1, 0, 1);
+        x.press(0, 0);
+        x.tick(2);
+        x.fault(1, 0, 0);
+        x.fault(1, 1, 2);
+        x.fault(0, 2, 1);
+        CHECK.due("mended ahead of it, broken ahead of it, a line alone", 2, x.tick(1));
+        knobs(x, true, false, true);
+    }
+
+    // "GENERAL ones (kind 0) 0 .. 15, whose scope is all stops"
+    private static void generalsActOnAllStops() {
+        for (int p = 0; p < 16; p++) {
+            Console x = Scenes.stops(7);
+            for (int s = 0; s < 7; s += 2) {
+                x.knob(s, true);
+            }
+            CHECK.due("set of general " + p, 4, x.set(0, p));
+            for (int s = 0; s < 7; s++) {
+                x.knob(s, s % 2 == 1);
+            }
+            CHECK.due("press of general " + p, 7, x.press(0, p));
+            CHECK.due("ticks", 7, x.tick(3));
+            knobs(x, true, false, true, false, true, false, true);
+        }
+    }
+
+    // "DIVISIONAL ones (kind 1) 0 .. 24, whose scope are the stops of division p / 5"
+    private static void divisionalsActOnTheirDivision() {
+        for (int p = 0; p < 25; p++) {
+            Console x = Scenes.stops(10);
+            for (int s = 0; s < 10; s++) {
+                x.knob(s, true);
+            }
+            CHECK.due("set of divisional " + p, 2, x.set(1, p));
+            for (int s = 0; s < 10; s++) {
+                x.knob(s, false);
+            }
+            CHECK.no("lamp", x.lamp(1, p));
+            CHECK.due("press of divisional " + p, 2, x.press(1, p));
+            CHECK.due("ticks", 2, x.tick(3));
+            CHECK.due("a stop of division p / 5", 1, x.about(p / 5, 0));
+            CHECK.due("the other stop of division p / 5", 1, x.about(5 + p / 5, 0));
+            CHECK.due("no more", 2, x.count(3));
+            CHECK.yes("lamp", x.lamp(1, p));
+        }
+    }
+
+    // "Each has a set for each LEVEL 0 .. 7"
     private static void eachPistonHasASetOfItsOwn() {
         for (int level = 0; level < 8; level++) {
             for (int p = 0; p < 25; p++) {
@@ -194,7 +281,7 @@ public final class PistonsTest {
 
     /** With all knobs in, every lamp is lit but that of the one piston whose set is not empty. */
     private static void onlyOneIsSet(int kind, int level, int p) {
-        OrganConsole x = Check.stops(5);
+        Console x = Scenes.stops(5);
         int stop = kind == 1 ? p / 5 : p % 5;
         x.knob(stop, true);
         x.level(level);
@@ -212,138 +299,308 @@ public final class PistonsTest {
         }
     }
 
-    private static void theLockKeepsSets() {
-        OrganConsole x = Check.stops(5);
-        x.knob(0, true);
-        x.insert();
-        CHECK.yes("lock", x.lock(true));
-        CHECK.no("lock again", x.lock(true));
-        for (int kind = 0; kind < 3; kind++) {
-            int k = kind;
-            CHECK.refused(x, "set, locked, kind " + k, IllegalStateException.class, () -> x.set(k, 0));
+    // "with no stop in it at first"
+    private static void setsAreEmptyAtFirst() {
+        Console x = Scenes.stops(5);
+        for (int s = 0; s < 5; s++) {
+            x.knob(s, true);
         }
-        CHECK.refused(x, "set of no kind, locked", NoSuchElementException.class, () -> x.set(3, 0));
-        CHECK.refused(x, "set of no piston, locked", NoSuchElementException.class, () -> x.set(0, 16));
-        CHECK.refused(x, "set of no frame, locked", NoSuchElementException.class, () -> x.set(2, 1));
-        CHECK.due("press, locked", 1, x.press(0, 0));
-        CHECK.due("level, locked", 0, x.level(2));
-        CHECK.yes("unlock", x.lock(false));
-        CHECK.no("unlock again", x.lock(false));
-        CHECK.due("set, unlocked", 1, x.set(0, 0));
+        for (int level = 0; level < 8; level++) {
+            x.level(level);
+            for (int p = 0; p < 25; p++) {
+                CHECK.due("a divisional brings its stop in", 1, x.press(1, p));
+                if (p < 16) {
+                    CHECK.due("a general brings all stops in", 5, x.press(0, p));
+                }
+            }
+        }
+        CHECK.due("ticks", 5, x.tick(3));
+        CHECK.due("all are in", 0, x.count(3));
     }
 
-    private static void setCountsWithinTheScope() {
-        OrganConsole x = Check.stops(5);
-        x.stop(2, 0, 0, 96);
-        x.stop(2, 0, 0, 96);
+    private static void pistonsWithoutStops() {
+        Console x = new Console();
+        for (int p = 0; p < 25; p++) {
+            CHECK.due("press of a divisional", 0, x.press(1, p));
+            CHECK.due("set of a divisional", 0, x.set(1, p));
+            CHECK.yes("lamp of a divisional", x.lamp(1, p));
+            if (p < 16) {
+                CHECK.due("press of a general", 0, x.press(0, p));
+                CHECK.due("set of a general", 0, x.set(0, p));
+                CHECK.yes("lamp of a general", x.lamp(0, p));
+            }
+        }
+        CHECK.due("ticks", 0, x.tick(100));
+        CHECK.due("pulls", 0, x.count(4));
+    }
+
+    private static void pistonsOfAllStops() {
+        Console x = generalOfAll(48);
+        CHECK.due("press", 48, x.press(0, 0));
+        CHECK.due("pulls", 48, x.count(4));
+        CHECK.due("ticks", 48, x.tick(3));
+        CHECK.due("all are out", 48, x.count(3));
+        CHECK.yes("lamp", x.lamp(0, 0));
+        CHECK.due("set", 48, x.set(0, 15));
+        CHECK.due("set of the pedal's division", 9, x.set(1, 24));
+        CHECK.due("set of division 0", 10, x.set(1, 0));
+        CHECK.due("press of an empty one", 48, x.press(0, 1));
+        CHECK.due("ticks", 48, x.tick(100));
+        CHECK.due("all are in", 0, x.count(3));
+    }
+
+    private static void aDivisionWithoutStops() {
+        Console x = Scenes.stops(4);
+        for (int s = 0; s < 4; s++) {
+            x.knob(s, true);
+        }
+        CHECK.due("set", 0, x.set(1, 20));
+        CHECK.due("press", 0, x.press(1, 24));
+        CHECK.yes("lamp", x.lamp(1, 22));
+        CHECK.due("pulls", 0, x.count(4));
+    }
+
+    // "Recalls the set of a piston at the level (kind 0, 1) ..: how many pulls begin."
+    private static void pressTellsHowManyPullsBegin() {
+        Console x = generalOfAll(5);
+        CHECK.due("five are not so", 5, x.press(0, 0));
+        x.knob(1, true);
+        x.knob(4, true);
+        CHECK.due("three are not so", 3, x.press(0, 0));
+        x.tick(3);
+        CHECK.due("none is not so", 0, x.press(0, 0));
+        CHECK.due("the divisional's stop is not so", 1, x.press(1, 9));
+        x.level(1);
+        CHECK.due("at another level the set is another", 5, x.press(0, 0));
+        x.level(0);
+        CHECK.due("back at the level", 0, x.press(0, 0));
+        CHECK.due("a press brings no cursor", -1, x.count(6));
+    }
+
+    // "The knobs as they stand, within the scope, become the set of a piston at the level"
+    private static void setTakesKnobsAsTheyStand() {
+        Console x = generalOfAll(5);
+        x.knob(0, true);
+        x.press(0, 0);
+        x.full(true);
+        x.assign(1, 3, true);
+        x.pedal(1);
+        CHECK.due("no pull, no crescendo, no full organ counts", 1, x.set(0, 1));
+        CHECK.yes("lamp", x.lamp(0, 1));
+        CHECK.due("a set drops no pull", 4, x.count(4));
+        x.tick(3);
+        CHECK.no("lamp", x.lamp(0, 1));
+        CHECK.due("press", 4, x.press(0, 1));
+        x.tick(3);
+        knobs(x, true, false, false, false, false);
+    }
+
+    // "how many stops are in it"
+    private static void setTellsHowManyStopsAreInIt() {
+        Console x = Scenes.stops(7);
         for (int s = 0; s < 7; s++) {
             x.knob(s, s != 3);
         }
         CHECK.due("general", 6, x.set(0, 0));
-        CHECK.due("division 0", 1, x.set(1, 4));
-        CHECK.due("division 2", 3, x.set(1, 10));
-        CHECK.due("division 2", 3, x.set(1, 14));
+        CHECK.due("division 0", 2, x.set(1, 4));
+        CHECK.due("division 1", 2, x.set(1, 5));
+        CHECK.due("division 2", 1, x.set(1, 14));
         CHECK.due("division 3", 0, x.set(1, 15));
-        x.knob(5, false);
-        CHECK.due("a set anew", 2, x.set(1, 10));
-        CHECK.due("pulls, not what they will bring, are not in a set", 1, x.press(1, 14));
-        CHECK.due("set amid a pull", 2, x.set(1, 11));
-        x.tick(3);
-        CHECK.no("lamp of it", x.lamp(1, 11));
+        CHECK.due("division 4", 1, x.set(1, 20));
+    }
+
+    private static void setTakesThePlaceOfTheOldSet() {
+        Console x = generalOfAll(5);
+        x.knob(2, true);
+        CHECK.due("set", 1, x.set(0, 0));
+        CHECK.yes("lamp", x.lamp(0, 0));
+        x.knob(2, false);
+        CHECK.due("an empty set", 0, x.set(0, 0));
+        CHECK.yes("lamp", x.lamp(0, 0));
     }
 
     private static void aStopAddedLaterIsInNoSet() {
-        OrganConsole x = Check.stops(5);
-        for (int s = 0; s < 5; s++) {
-            x.knob(s, true);
-        }
-        x.set(0, 0);
+        Console x = generalOfAll(5);
+        x.press(0, 0);
+        x.tick(3);
         x.set(1, 0);
         int late = x.stop(0, 0, 0, 96);
         CHECK.yes("lamp, the new knob is in", x.lamp(0, 0));
         x.knob(late, true);
-        CHECK.no("lamp", x.lamp(0, 0));
-        CHECK.no("lamp", x.lamp(1, 0));
+        CHECK.no("lamp of the general", x.lamp(0, 0));
+        CHECK.no("lamp of the divisional", x.lamp(1, 0));
         CHECK.due("press", 1, x.press(1, 0));
         CHECK.due("tick", 1, x.tick(3));
         CHECK.due("it is in", 0, x.about(late, 0));
     }
 
-    private static void faultyCoilsDoNotMove() {
-        OrganConsole x = Check.stops(5);
-        for (int s = 0; s < 3; s++) {
-            x.knob(s, true);
-        }
-        x.set(0, 0);
-        for (int s = 0; s < 3; s++) {
-            x.knob(s, false);
-        }
-        x.fault(1, 0, 1);
-        x.fault(1, 1, 2);
-        CHECK.due("pulls begin all the same", 3, x.press(0, 0));
-        CHECK.due("count 4", 3, x.count(4));
-        x.fault(1, 1, 0);
-        x.fault(1, 2, 1);
-        CHECK.due("the fault at the third tick matters", 1, x.tick(3));
-        knobs(x, false, true, false);
-        CHECK.due("all pulls have ended", 0, x.count(4));
-        CHECK.yes("a hand moves a knob with a faulty coil", x.knob(0, true));
-        x.fault(1, 2, 0);
-        CHECK.due("an ended pull does not go on", 0, x.tick(100));
-        CHECK.due("press", 1, x.press(0, 0));
-        CHECK.due("tick", 1, x.tick(3));
-    }
-
-    private static void wrongPistons() {
-        OrganConsole x = Check.stops(5);
-        x.knob(0, true);
-        x.insert();
-        int[][] bad = {{-1, 0}, {3, 0}, {Integer.MIN_VALUE, 0}, {Integer.MAX_VALUE, 0}, {0, -1}, {0, 16},
-            {0, Integer.MAX_VALUE}, {1, -1}, {1, 25}, {1, Integer.MIN_VALUE}, {2, -1}, {2, 1}, {2, 100}};
-        for (int[] b : bad) {
-            String told = " " + b[0] + " " + b[1];
-            CHECK.refused(x, "press" + told, NoSuchElementException.class, () -> x.press(b[0], b[1]));
-            CHECK.refused(x, "set" + told, NoSuchElementException.class, () -> x.set(b[0], b[1]));
-            CHECK.refused(x, "lamp" + told, NoSuchElementException.class, () -> x.lamp(b[0], b[1]));
-        }
-        CHECK.due("the last general", 1, x.set(0, 15));
-        CHECK.due("the last divisional", 0, x.set(1, 24));
-    }
-
-    private static void wrongTicksAndLevels() {
-        OrganConsole x = Check.stops(5);
-        x.knob(0, true);
+    // "within its scope, the knobs stand just as its set has it"
+    private static void lampsAreLitByKnobsWithinTheScope() {
+        Console x = generalOfAll(6);
+        CHECK.yes("an empty set, all knobs in", x.lamp(0, 15));
         x.press(0, 0);
-        int[] ticks = {-1, 101, Integer.MIN_VALUE, Integer.MAX_VALUE};
-        for (int n : ticks) {
-            CHECK.refused(x, "tick " + n, IllegalArgumentException.class, () -> x.tick(n));
-        }
-        int[] levels = {-1, 8, Integer.MIN_VALUE, Integer.MAX_VALUE};
-        x.level(7);
-        for (int n : levels) {
-            CHECK.refused(x, "level " + n, IllegalArgumentException.class, () -> x.level(n));
-        }
-        CHECK.due("the level stays", 7, x.level(0));
-        CHECK.due("100 ticks", 1, x.tick(100));
+        x.tick(2);
+        CHECK.no("pulled, but not there yet", x.lamp(0, 0));
+        x.tick(1);
+        CHECK.yes("there", x.lamp(0, 0));
+        x.knob(5, false);
+        CHECK.no("one too few", x.lamp(0, 0));
+        x.set(0, 1);
+        x.knob(5, true);
+        CHECK.no("one too many", x.lamp(0, 1));
+        CHECK.no("a divisional, one too many", x.lamp(1, 2));
+        x.knob(0, false);
+        x.knob(5, false);
+        CHECK.yes("a divisional, knobs out outside its scope", x.lamp(1, 2));
+        x.full(true);
+        CHECK.yes("the full organ moves no knob", x.lamp(1, 2));
+        x.level(6);
+        CHECK.no("at the level: its set is another", x.lamp(0, 0));
     }
 
+    private static void pistonsThatAreNot() {
+        for (Console x : Scenes.all()) {
+            int frames = x.twin().count(5);
+            for (int kind : Check.outside(0, 2)) {
+                pistonIsNot(x, kind, 0);
+                pistonIsNot(x, kind, -1);
+            }
+            for (int p : Check.outside(0, 15)) {
+                pistonIsNot(x, 0, p);
+            }
+            for (int p : Check.outside(0, 24)) {
+                pistonIsNot(x, 1, p);
+            }
+            for (int p : Check.outside(0, frames - 1)) {
+                pistonIsNot(x, 2, p);
+            }
+        }
+    }
+
+    private static void pistonIsNot(Console x, int kind, int p) {
+        String told = " of kind " + kind + " number " + p;
+        CHECK.refused(x, "press" + told, NoSuchElementException.class, c -> c.press(kind, p));
+        CHECK.refused(x, "set" + told, NoSuchElementException.class, c -> c.set(kind, p));
+        CHECK.refused(x, "lamp" + told, NoSuchElementException.class, c -> c.lamp(kind, p));
+        Console locked = x.twin();
+        locked.lock(true);
+        CHECK.refused(locked, "set, locked," + told, NoSuchElementException.class, c -> c.set(kind, p));
+    }
+
+    // "IllegalStateException: the lock is on."
+    private static void theLockKeepsSets() {
+        for (Console x : new Console[] {Scenes.busy(), Scenes.full()}) {
+            x.lock(true);
+            for (int kind = 0; kind < 3; kind++) {
+                int k = kind;
+                int last = kind == 0 ? 15 : kind == 1 ? 24 : x.twin().count(5) - 1;
+                CHECK.refused(x, "first set, locked, of kind " + k, IllegalStateException.class, c -> c.set(k, 0));
+                CHECK.refused(x, "last set, locked, of kind " + k, IllegalStateException.class, c -> c.set(k, last));
+            }
+            x.lock(false);
+            CHECK.due("set, unlocked", x.twin().count(3), x.set(0, 0));
+        }
+        Console x = generalOfAll(5);
+        x.lock(true);
+        CHECK.due("the lock keeps no press", 5, x.press(0, 0));
+        CHECK.due("the lock keeps no level", 0, x.level(2));
+        CHECK.due("the lock keeps no tick", 5, x.tick(3));
+        CHECK.yes("the lock keeps no knob", x.knob(0, false));
+    }
+
+    // "The lock is on, or off: whether it was not so."
+    private static void theLockTellsWhetherItWasNotSo() {
+        Console x = new Console();
+        CHECK.no("off at first", x.lock(false));
+        CHECK.yes("on", x.lock(true));
+        CHECK.no("on again", x.lock(true));
+        CHECK.yes("off", x.lock(false));
+        CHECK.no("off again", x.lock(false));
+        CHECK.due("set", 0, x.set(0, 0));
+    }
+
+    // "LEVEL 0 .. 7 (0 at first)"; "The level: what it was."
+    private static void levelsTellWhatTheyWere() {
+        Console x = new Console();
+        CHECK.due("0 at first", 0, x.level(0));
+        for (int n = 0; n < 8; n++) {
+            CHECK.due("what it was", Math.max(0, n - 1), x.level(n));
+            CHECK.due("the same again", n, x.level(n));
+        }
+        CHECK.due("the last", 7, x.level(0));
+    }
+
+    // "IllegalArgumentException: n is not 0 .. 7."
+    private static void levelsThatAreNot() {
+        for (Console x : Scenes.all()) {
+            for (int n : Check.outside(0, 7)) {
+                CHECK.refused(x, "level " + n, IllegalArgumentException.class, c -> c.level(n));
+            }
+        }
+    }
+
+    // "So many ticks: how often a magnet moved a knob."
+    private static void ticksTellHowOftenAKnobMoved() {
+        Console x = generalOfAll(5);
+        x.press(1, 0);
+        CHECK.due("no pull", 0, x.tick(100));
+        x.press(0, 0);
+        x.tick(1);
+        x.knob(0, true);
+        x.press(1, 0);
+        CHECK.due("no tick", 0, x.tick(0));
+        CHECK.due("no tick moves nothing on", 2, x.about(1, 2));
+        CHECK.due("a pull that begins anew has three ticks", 3, x.about(0, 2));
+        CHECK.due("two ticks: the four that began first", 4, x.tick(2));
+        CHECK.due("one tick: the one that began last", 1, x.tick(1));
+        knobs(x, false, true, true, true, true);
+        x.press(0, 1);
+        CHECK.due("a hundred ticks move each knob once", 4, x.tick(100));
+    }
+
+    // "IllegalArgumentException: n is not 0 .. 100."
+    private static void ticksThatAreNot() {
+        for (Console x : Scenes.all()) {
+            for (int n : Check.outside(0, 100)) {
+                CHECK.refused(x, "tick " + n, IllegalArgumentException.class, c -> c.tick(n));
+            }
+        }
+    }
+
+    // "Of a stop: 0 1 if its knob is out, else 0, 1 1 if it speaks, 2 ticks till its pull ends, 3 .. pipes .. open."
     private static void whatAboutTells() {
-        OrganConsole x = Check.stops(5);
+        Console x = Scenes.stops(5);
         x.knob(0, true);
         x.key(0, 5, true);
+        x.key(0, 6, true);
         x.press(0, 0);
-        int[] told = {1, 1, 3, 1};
+        int[] told = {1, 1, 3, 2};
         for (int what = 0; what < 4; what++) {
             CHECK.due("about 0 " + what, told[what], x.about(0, what));
             CHECK.due("about 1 " + what, 0, x.about(1, what));
         }
-        int[] bad = {-1, 4, Integer.MIN_VALUE, Integer.MAX_VALUE};
-        for (int what : bad) {
-            CHECK.refused(x, "about 0 " + what, IllegalArgumentException.class, () -> x.about(0, what));
-            CHECK.refused(x, "about 5 " + what, NoSuchElementException.class, () -> x.about(5, what));
+        x.tick(3);
+        for (int what = 0; what < 4; what++) {
+            CHECK.due("about 0 " + what + ", the knob is in", 0, x.about(0, what));
         }
-        for (int stop : FAR) {
-            CHECK.refused(x, "about " + stop, NoSuchElementException.class, () -> x.about(stop, 0));
+    }
+
+    // "NoSuchElementException; IllegalArgumentException: none of these."
+    private static void whatAboutDoesNotTell() {
+        for (Console x : Scenes.all()) {
+            int stops = x.twin().count(0);
+            for (int what : Check.outside(0, 3)) {
+                if (stops > 0) {
+                    CHECK.refused(x, "about 0 " + what, IllegalArgumentException.class, c -> c.about(0, what));
+                    CHECK.refused(x, "about the last " + what, IllegalArgumentException.class, c -> c.about(stops - 1, what));
+                }
+                for (int stop : Check.outside(0, stops - 1)) {
+                    CHECK.refused(x, "about " + stop + " " + what, NoSuchElementException.class, c -> c.about(stop, what));
+                }
+            }
+            for (int stop : Check.outside(0, stops - 1)) {
+                CHECK.refused(x, "about " + stop, NoSuchElementException.class, c -> c.about(stop, 0));
+            }
         }
     }
 }

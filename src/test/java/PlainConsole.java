@@ -7,7 +7,7 @@ import java.util.TreeSet;
  * A second console, told straight from the document with sets and loops and no thought of speed:
  * ModelTest holds the program against it.
  */
-final class PlainConsole {
+final class PlainConsole implements Face {
     private static final class Stop {
         int division;
         int shift;
@@ -123,7 +123,8 @@ final class PlainConsole {
         missing(outside(stop, 0, stops.size() - 1));
     }
 
-    int stop(int division, int shift, int low, int high) {
+    @Override
+    public int stop(int division, int shift, int low, int high) {
         missing(outside(division, 0, 4));
         badArgument(outside(shift, -24, 24) || !(0 <= low && low <= high && high <= 96));
         badState(stops.size() == 48);
@@ -136,7 +137,8 @@ final class PlainConsole {
         return stops.size() - 1;
     }
 
-    int coupler(int from, int to, int shift) {
+    @Override
+    public int coupler(int from, int to, int shift) {
         missing(outside(from, 0, 4) || outside(to, 0, 4));
         badArgument(outside(shift, -24, 24));
         badState(couplers.size() == 16);
@@ -148,14 +150,16 @@ final class PlainConsole {
         return couplers.size() - 1;
     }
 
-    boolean key(int keyboard, int k, boolean isDown) {
+    @Override
+    public boolean key(int keyboard, int k, boolean isDown) {
         missing(outside(keyboard, 0, 4) || outside(k, 0, keyboard == 4 ? 31 : 60));
         boolean was = down[keyboard][k];
         down[keyboard][k] = isDown;
         return was != isDown;
     }
 
-    boolean knob(int stop, boolean out) {
+    @Override
+    public boolean knob(int stop, boolean out) {
         missingStop(stop);
         Stop s = stops.get(stop);
         boolean was = s.out;
@@ -164,14 +168,16 @@ final class PlainConsole {
         return was != out;
     }
 
-    boolean tab(int coupler, boolean on) {
+    @Override
+    public boolean tab(int coupler, boolean on) {
         missing(outside(coupler, 0, couplers.size() - 1));
         boolean was = couplers.get(coupler).on;
         couplers.get(coupler).on = on;
         return was != on;
     }
 
-    boolean full(boolean on) {
+    @Override
+    public boolean full(boolean on) {
         boolean was = full;
         full = on;
         return was != on;
@@ -208,7 +214,8 @@ final class PlainConsole {
         return begun;
     }
 
-    int press(int kind, int p) {
+    @Override
+    public int press(int kind, int p) {
         missingPiston(kind, p);
         if (kind == 2) {
             cursor = p;
@@ -226,62 +233,71 @@ final class PlainConsole {
         return set;
     }
 
-    int set(int kind, int p) {
+    @Override
+    public int set(int kind, int p) {
         missingPiston(kind, p);
         badState(lock);
         setsOf(kind).set(p, standing(kind, p));
         return setsOf(kind).get(p).size();
     }
 
-    int level(int n) {
+    @Override
+    public int level(int n) {
         badArgument(outside(n, 0, 7));
         int was = level;
         level = n;
         return was;
     }
 
-    boolean lock(boolean on) {
+    @Override
+    public boolean lock(boolean on) {
         boolean was = lock;
         lock = on;
         return was != on;
     }
 
-    int move(int by) {
+    @Override
+    public int move(int by) {
         long to = (long) cursor + (long) by;
         badArgument(to < 0 || to >= memory.frames.size());
         cursor = (int) to;
         return recall(2, cursor);
     }
 
-    int insert() {
+    @Override
+    public int insert() {
         badState(lock || memory.frames.size() == 100);
         memory.frames.add(cursor + 1, standing(0, 0));
         cursor++;
         return memory.frames.size();
     }
 
-    int delete() {
+    @Override
+    public int delete() {
         badState(lock || cursor == -1);
         memory.frames.remove(cursor);
         cursor--;
         return memory.frames.size();
     }
 
-    int pedal(int step) {
+    @Override
+    public int pedal(int step) {
         badArgument(outside(step, 0, 15));
         int was = pedal;
         pedal = step;
         return was;
     }
 
-    boolean assign(int step, int stop, boolean in) {
+    @Override
+    public boolean assign(int step, int stop, boolean in) {
         missingStop(stop);
         badArgument(outside(step, 1, 15));
         badState(lock);
         return in ? memory.steps.get(step).add(stop) : memory.steps.get(step).remove(stop);
     }
 
-    int tick(int n) {
+    @Override
+    public int tick(int n) {
         badArgument(outside(n, 0, 100));
         int moved = 0;
         for (int t = 0; t < n; t++) {
@@ -335,7 +351,8 @@ final class PlainConsole {
         return open;
     }
 
-    int about(int stop, int what) {
+    @Override
+    public int about(int stop, int what) {
         missingStop(stop);
         badArgument(outside(what, 0, 3));
         Stop s = stops.get(stop);
@@ -347,12 +364,14 @@ final class PlainConsole {
         }
     }
 
-    boolean pipe(int stop, int n) {
+    @Override
+    public boolean pipe(int stop, int n) {
         missingStop(stop);
         return open(stop, n);
     }
 
-    boolean lamp(int kind, int p) {
+    @Override
+    public boolean lamp(int kind, int p) {
         missingPiston(kind, p);
         return setsOf(kind).get(p).equals(standing(kind, p));
     }
@@ -366,7 +385,8 @@ final class PlainConsole {
         return true;
     }
 
-    int commit(int writes) {
+    @Override
+    public int commit(int writes) {
         badArgument(outside(writes, 0, 9));
         int version = 0;
         for (Page[] copy : pages) {
@@ -388,7 +408,8 @@ final class PlainConsole {
         return count(7);
     }
 
-    int boot() {
+    @Override
+    public int boot() {
         inForce = -1;
         for (int copy = 0; copy < 2; copy++) {
             if (whole(copy) && (inForce == -1 || pages[copy][0].version > pages[inForce][0].version)) {
@@ -406,14 +427,16 @@ final class PlainConsole {
         return count(7);
     }
 
-    int spoil(int copy, int page) {
+    @Override
+    public int spoil(int copy, int page) {
         missing(outside(copy, 0, 1) || outside(page, 0, 8));
         badState(pages[copy][page].version == 0);
         pages[copy][page].spoilt = !pages[copy][page].spoilt;
         return pages[copy][page].version;
     }
 
-    int fault(int kind, int k, int how) {
+    @Override
+    public int fault(int kind, int k, int how) {
         missing(outside(kind, 0, 1) || outside(k, 0, kind == 0 ? 39 : stops.size() - 1));
         badArgument(outside(how, 0, 2));
         int was = kind == 0 ? lines[k] : stops.get(k).coil;
@@ -425,7 +448,8 @@ final class PlainConsole {
         return was;
     }
 
-    int test() {
+    @Override
+    public int test() {
         for (int i = 0; i < 40; i++) {
             if (lines[i] != 0) {
                 return 2 * i + lines[i];
@@ -475,7 +499,8 @@ final class PlainConsole {
         return pulls;
     }
 
-    int count(int what) {
+    @Override
+    public int count(int what) {
         badArgument(outside(what, 0, 10));
         switch (what) {
             case 0: return stops.size();
