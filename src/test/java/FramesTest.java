@@ -237,6 +237,12 @@ public final class FramesTest {
                 CHECK.no("general " + p + " is empty", x.lamp(0, p));
             }
         }
+        x.knob(0, false);
+        for (int step = 0; step <= 15; step++) {
+            x.pedal(step);
+            CHECK.due("no frame is a step: pedal at " + step, 0, x.about(0, 1));
+        }
+        x.knob(0, true);
         x.assign(1, 0, true);
         x.pedal(1);
         x.press(2, 50);

@@ -412,6 +412,11 @@ public final class KeysTest {
         x.tab(1, true);
         x.key(0, 20, false);
         CHECK.no("none holds it", x.pipe(0, 25));
+        x.coupler(1, 1, 0);
+        x.tab(2, true);
+        x.key(1, 25, true);
+        CHECK.due("a coupler by 0 to its own division reaches the same note", 1, x.count(8));
+        CHECK.due("which is one", 1, x.count(9));
     }
 
     // "A stop SPEAKS if its KNOB is out, or the crescendo adds it, or the full organ is on."

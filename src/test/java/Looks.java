@@ -15,7 +15,7 @@ final class Looks {
     private static final int PAGES = 9;
     private static final Consumer<Console> AS_IT_IS = x -> { };
 
-    /** What is asked of a twin, and how many calls it takes at most. */
+    /** What is asked of a twin; i tells the questions of one kind apart. */
     private interface Question {
         Object ask(Console x, int i);
     }
@@ -52,7 +52,7 @@ final class Looks {
         return looks.told;
     }
 
-    /** Asks questions 0 .. size - 1 of twins that were made ready. */
+    /** Asks questions 0 .. size - 1, which take so many calls each at most, of twins that were made ready. */
     private void ask(String name, int size, int callsEach, Consumer<Console> ready, Question question) {
         Console x = null;
         for (int i = 0; i < size; i++) {

@@ -299,6 +299,7 @@ public final class MemoryTest {
             CHECK.due("spoil", 1, x.spoil(0, page));
             CHECK.due("none is whole", 0, x.boot());
             inForce(x, 0, OrganConsole.NONE);
+            CHECK.due("no frames", 0, x.count(5));
             CHECK.due("mend", 1, x.spoil(0, page));
             CHECK.due("the older copy is whole again", 1, x.boot());
             CHECK.due("mend", 2, x.spoil(1, page));
@@ -354,10 +355,21 @@ public final class MemoryTest {
         Console never = x.twin();
         CHECK.due("boot, never written", 0, never.boot());
         isEmpty(never);
-        x.commit(9);
-        x.spoil(0, 8);
-        CHECK.due("boot, spoilt", 0, x.boot());
-        isEmpty(x);
+        Console once = x.twin();
+        once.commit(9);
+        once.spoil(0, 8);
+        CHECK.due("boot, copy 0 spoilt", 0, once.boot());
+        isEmpty(once);
+        Console twice = x.twin();
+        twice.commit(9);
+        twice.commit(9);
+        twice.spoil(0, 0);
+        twice.spoil(1, 8);
+        CHECK.due("boot, both copies spoilt", 0, twice.boot());
+        isEmpty(twice);
+        Console cut = x.twin();
+        CHECK.due("cut behind the last page", 0, cut.commit(8));
+        isEmpty(cut);
     }
 
     private static void isEmpty(Console x) {

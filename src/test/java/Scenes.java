@@ -62,7 +62,7 @@ final class Scenes {
         x.set(0, 0);
         x.assign(2, 0, true);
         x.commit(9);
-        x.set(1, 24);
+        x.set(0, 7);
         x.spoil(0, 3);
         x.fault(0, 39, 2);
         x.fault(1, 2, 1);
@@ -80,9 +80,12 @@ final class Scenes {
         }
         x.tab(15, true);
         x.key(0, 60, true);
+        for (int keyboard = 0; keyboard < 5; keyboard++) {
+            x.key(keyboard, 31 - keyboard, true);
+        }
         for (int f = 0; f < 100; f++) {
             if (f % 10 == 0) {
-                x.knob(f % 48, true);
+                x.knob(f / 10 * 4, true);
             }
             x.insert();
         }
