@@ -1,6 +1,5 @@
 import java.util.List;
 import java.util.function.Consumer;
-import java.util.function.Supplier;
 
 /**
  * Promises 2 to 26: each call with every mixture of arguments at and beyond the edges, on consoles with
@@ -21,24 +20,22 @@ public final class EdgesTest {
     private final String name;
     private final Console real;
     private final Console plain;
-    private final boolean dear;
     private final List<String> before;
 
-    private EdgesTest(String name, Consumer<Console> way, boolean dear) {
+    private EdgesTest(String name, Consumer<Console> way) {
         this.name = name;
         this.real = new Console();
         this.plain = new Console(PlainConsole::new);
         way.accept(real);
         way.accept(plain);
-        this.dear = dear;
-        this.before = looks(real::twin);
+        this.before = Looks.of(real::twin);
     }
 
     public static void main(String[] args) {
-        new EdgesTest("bare", x -> { }, false).run();
-        new EdgesTest("busy", Scenes::toBusy, false).run();
-        new EdgesTest("locked", EdgesTest::locked, false).run();
-        new EdgesTest("full", Scenes::toFull, true).run();
+        new EdgesTest("bare", x -> { }).run();
+        new EdgesTest("busy", Scenes::toBusy).run();
+        new EdgesTest("locked", EdgesTest::locked).run();
+        new EdgesTest("full", Scenes::toFull).run();
         CHECK.end("EdgesTest");
     }
 
@@ -47,10 +44,6 @@ public final class EdgesTest {
         x.move(-1);
         x.full(true);
         x.lock(true);
-    }
-
-    private List<String> looks(Supplier<Console> twins) {
-        return dear ? Looks.brief(twins) : Looks.of(twins);
     }
 
     /** The numbers at the edges of first .. last, within and beyond. */
@@ -68,9 +61,9 @@ public final class EdgesTest {
     }
 
     private void keysAndStops(int[] stops) {
-        int[] pitches = {-1, 0, 96, 97};
+        int[] pitches = edges(0, 96);
         int[] tabs = edges(0, real.twin().count(1) - 1);
-        each("stop", (x, a) -> x.stop(a[0], a[1], a[2], a[3]), new int[] {-1, 0, 4, 5}, edges(-24, 24), pitches, pitches);
+        each("stop", (x, a) -> x.stop(a[0], a[1], a[2], a[3]), edges(0, 4), edges(-24, 24), pitches, pitches);
         each("coupler", (x, a) -> x.coupler(a[0], a[1], a[2]), edges(0, 4), edges(0, 4), edges(-24, 24));
         int[] keys = {LEAST, -1, 0, 31, 32, 60, 61, MOST};
         each("key", (x, a) -> x.key(a[0], a[1], a[2] == 1), edges(0, 4), keys, BOTH);
@@ -134,8 +127,8 @@ public final class EdgesTest {
         }
         String want = outcome(plain.twin(), call, arguments);
         CHECK.same(told.toString(), want, outcome(real.twin(), call, arguments));
-        List<String> due = want.endsWith("Exception") ? before : looks(() -> touched(plain, call, arguments));
-        CHECK.alike(told.toString(), due, looks(() -> touched(real, call, arguments)));
+        List<String> due = want.endsWith("Exception") ? before : Looks.of(() -> touched(plain, call, arguments));
+        CHECK.alike(told.toString(), due, Looks.of(() -> touched(real, call, arguments)));
     }
 
     private static Console touched(Console x, Call call, int[] arguments) {

@@ -45,13 +45,6 @@ final class Looks {
         return looks.told;
     }
 
-    /** What shows alone, for consoles that are dear to make. */
-    static List<String> brief(Supplier<Console> twins) {
-        Looks looks = new Looks(twins);
-        looks.whatShows();
-        return looks.told;
-    }
-
     /** Asks questions 0 .. size - 1, which take so many calls each at most, of twins that were made ready. */
     private void ask(String name, int size, int callsEach, Consumer<Console> ready, Question question) {
         Console x = null;

@@ -1,4 +1,6 @@
+import java.util.List;
 import java.util.NoSuchElementException;
+import java.util.function.Consumer;
 
 /** Promises 5 knob, 8 press, 9 set, 10 level, 11 lock, 17 tick, 18 about, 20 lamp: pistons and magnets. */
 public final class PistonsTest {
@@ -14,6 +16,8 @@ public final class PistonsTest {
         aPullOutsideTheScopeGoesOn();
         aHandThatMovesAKnobDropsItsPull();
         aHandThatLeavesAKnobDropsItsPull();
+        nothingElseDropsAPull();
+        aPullGoesOnWhenItsSetChanges();
         aFaultyCoilEndsThePullWithoutAMove();
         theFaultAtTheThirdTickMatters();
         generalsActOnAllStops();
@@ -192,6 +196,41 @@ public final class PistonsTest {
             CHECK.due("ticks", 1, x.tick(3));
             knobs(x, false, true);
         }
+    }
+
+    // Only a recall, a hand and a boot drop pulls; the document lets no other call do so.
+    private static void nothingElseDropsAPull() {
+        List<Consumer<Face>> others = List.of(
+            x -> x.stop(0, 0, 0, 96), x -> x.coupler(0, 1, 0), x -> x.key(0, 0, true), x -> x.full(true),
+            x -> x.set(0, 0), x -> x.set(1, 0), x -> x.level(7), x -> x.lock(true), x -> x.insert(),
+            x -> x.pedal(15), x -> x.assign(1, 0, true), x -> x.tick(0), x -> x.about(0, 2), x -> x.pipe(0, 0),
+            x -> x.lamp(0, 0), x -> x.commit(9), x -> x.fault(0, 0, 1), x -> x.fault(1, 0, 0), x -> x.test(),
+            x -> x.count(4), x -> x.knob(1, true), x -> x.press(1, 5));
+        for (int i = 0; i < others.size(); i++) {
+            Console x = generalOfAll(2);
+            x.press(0, 0);
+            x.tick(1);
+            others.get(i).accept(x);
+            CHECK.due("left behind call " + i, 2, x.about(0, 2));
+            x.tick(1);
+            CHECK.due("in still behind call " + i, 0, x.about(0, 0));
+            x.tick(1);
+            CHECK.due("out behind call " + i, 1, x.about(0, 0));
+        }
+    }
+
+    // "At the third tick the knob comes to be so": as the set that was recalled has it
+    private static void aPullGoesOnWhenItsSetChanges() {
+        Console x = generalOfAll(2);
+        CHECK.due("press", 2, x.press(0, 0));
+        CHECK.due("the set is empty now", 0, x.set(0, 0));
+        CHECK.yes("lamp", x.lamp(0, 0));
+        CHECK.due("ticks", 2, x.tick(3));
+        knobs(x, true, true);
+        CHECK.due("press of the empty set", 2, x.press(0, 0));
+        CHECK.due("the set is of both now", 2, x.set(0, 0));
+        CHECK.due("ticks", 2, x.tick(3));
+        knobs(x, false, false);
     }
 
     // "(if its coil has a fault, it stays as it is, and the pull has ended)"
