@@ -205,7 +205,19 @@ public final class PistonsTest {
             x -> x.set(0, 0), x -> x.set(1, 0), x -> x.level(7), x -> x.lock(true), x -> x.insert(),
             x -> x.pedal(15), x -> x.assign(1, 0, true), x -> x.tick(0), x -> x.about(0, 2), x -> x.pipe(0, 0),
             x -> x.lamp(0, 0), x -> x.commit(9), x -> x.fault(0, 0, 1), x -> x.fault(1, 0, 0), x -> x.test(),
-            x -> x.count(4), x -> x.knob(1, true), x -> x.press(1, 5));
+            x -> x.count(4), x -> x.knob(1, true), x -> x.press(1, 5),
+            x -> {
+                x.coupler(0, 1, 0);
+                x.tab(0, true);
+            },
+            x -> {
+                x.commit(9);
+                x.spoil(0, 0);
+            },
+            x -> {
+                x.insert();
+                x.delete();
+            });
         for (int i = 0; i < others.size(); i++) {
             Console x = generalOfAll(2);
             x.press(0, 0);
